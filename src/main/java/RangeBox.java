@@ -207,14 +207,15 @@ public final class RangeBox {
         static final int SIGNED_NOT_ABOVE = 7;
         static final int SIGNED_ABOVE = 8;
         static final int SIGNED_NOT_BELOW = 9;
+        static final int COMMON_BITS = 10;
         static final int CONDITIONS = 11;
 
-        // The last one has no contrary among the conditions; it cuts nothing either way.
+        // COMMON_BITS has no contrary among the conditions; it cuts nothing either way.
         static final int[] CONTRARY = {
             DIFFERENT, EQUAL,
             NOT_BELOW, ABOVE, NOT_ABOVE, BELOW,
             SIGNED_NOT_BELOW, SIGNED_ABOVE, SIGNED_NOT_ABOVE, SIGNED_BELOW,
-            10
+            COMMON_BITS
         };
 
         static final long LEAST = 0x8000000000000000L;
