@@ -265,11 +265,29 @@ public final class RangeBox {
         }
 
         static long divide(long x, long y) {
-            return y == 0 ? 0 : Long.divideUnsigned(x, y);
+            if (y == 0) {
+                return 0;
+            }
+            if (y < 0) {
+                // Without sign twice y is beyond every long.
+                return isBelow(x, y) ? 0 : 1;
+            }
+            if (x >= 0) {
+                return x / y;
+            }
+            // Half of x has no sign to mislead the division; doubled again, the quotient is at most 1 too small.
+            long quotient = (x >>> 1) / y << 1;
+            return isBelow(x - quotient * y, y) ? quotient : quotient + 1;
         }
 
+        // By 0 the quotient is 0, which leaves x, as it must.
         private static long rest(long x, long y) {
-            return y == 0 ? x : Long.remainderUnsigned(x, y);
+            return x - divide(x, y) * y;
+        }
+
+        // Turning both signs over puts the longs below 0 above the others, as they are without sign.
+        private static boolean isBelow(long x, long y) {
+            return (x ^ LEAST) < (y ^ LEAST);
         }
 
         static boolean isSo(int condition, long x, long y) {
@@ -279,13 +297,13 @@ public final class RangeBox {
                 case DIFFERENT:
                     return x != y;
                 case BELOW:
-                    return Long.compareUnsigned(x, y) < 0;
+                    return isBelow(x, y);
                 case NOT_ABOVE:
-                    return Long.compareUnsigned(x, y) <= 0;
+                    return !isBelow(y, x);
                 case ABOVE:
-                    return Long.compareUnsigned(x, y) > 0;
+                    return isBelow(y, x);
                 case NOT_BELOW:
-                    return Long.compareUnsigned(x, y) >= 0;
+                    return !isBelow(x, y);
                 case SIGNED_BELOW:
                     return x < y;
                 case SIGNED_NOT_ABOVE:
