@@ -2,6 +2,7 @@
 final class CutModelTest {
     public static void main(String[] args) {
         Due due = new Due();
+        due.stands("promise 5, cut", "conditions cut ranges without losing a number for which they hold");
         Edges edges = new Edges(5);
         long[][] ranges = Edges.ranges(3);
         for (long[] x : ranges) {
@@ -38,7 +39,8 @@ final class CutModelTest {
             due.same("", true, true);
             return;
         }
-        String call = "cut(" + condition + ", " + x[0] + " .. " + x[1] + ", " + y[0] + " .. " + y[1] + ", " + holds + ")";
+        String call = "cut(" + condition + ", " + x[0] + " .. " + x[1] + ", " + y[0] + " .. " + y[1]
+            + ", " + holds + ")";
         due.same(call, done, model != null);
         due.range(call, box, 0, want[0], want[1]);
         due.range(call, box, 1, want[2], want[3]);

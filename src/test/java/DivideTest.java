@@ -1,7 +1,7 @@
 /** Promises 3 and 4 at the edges of DIV and MOD without sign, by rows written out by hand. */
 final class DivideTest {
-    private static final int DIV = 4;
-    private static final int MOD = 5;
+    private static final int DIV = Codes.DIV;
+    private static final int MOD = Codes.MOD;
     private static final long LEAST = Due.LEAST;
     private static final long GREATEST = Due.GREATEST;
     private static final long NARROW = Due.NARROW;
@@ -72,20 +72,42 @@ final class DivideTest {
 
     public static void main(String[] args) {
         Due due = new Due();
-        long[][][] edges = {BY_0, BY_1, BY_THE_GREATEST_WITHOUT_SIGN, BELOW_EQUAL_ABOVE, X_BELOW_0, Y_BELOW_0, BOTH_BELOW_0};
-        for (long[][] rows : edges) {
-            for (long[] row : rows) {
-                lookAtNumbers(due, DIV, row, false, row[2]);
-                lookAtNumbers(due, MOD, row, false, row[3]);
-                lookAtNumbers(due, DIV, row, true, row[4]);
-                lookAtNumbers(due, MOD, row, true, row[5]);
-            }
-        }
+        due.run(() -> dividesBy0(due));
+        due.run(() -> dividesWithoutSign(due));
+        due.run(() -> dividesRanges(due));
+        due.end();
+    }
+
+    private static void dividesBy0(Due due) {
+        due.stands("promises 3 and 4, work and exact", "DIV, MOD without sign, by 0: 0, and x");
+        lookAtRows(due, BY_0);
+    }
+
+    private static void dividesWithoutSign(Due due) {
+        due.stands("promises 3 and 4, work and exact", "DIV, MOD without sign");
+        lookAtRows(due, BY_1);
+        lookAtRows(due, BY_THE_GREATEST_WITHOUT_SIGN);
+        lookAtRows(due, BELOW_EQUAL_ABOVE);
+        lookAtRows(due, X_BELOW_0);
+        lookAtRows(due, Y_BELOW_0);
+        lookAtRows(due, BOTH_BELOW_0);
+    }
+
+    private static void dividesRanges(Due due) {
+        due.stands("promise 3, work", "OUTCOMES of RANGES x and y");
         for (long[] row : RANGES) {
             lookAtRanges(due, DIV, row, row[5], row[6]);
             lookAtRanges(due, MOD, row, row[7], row[8]);
         }
-        due.end();
+    }
+
+    private static void lookAtRows(Due due, long[][] rows) {
+        for (long[] row : rows) {
+            lookAtNumbers(due, DIV, row, false, row[2]);
+            lookAtNumbers(due, MOD, row, false, row[3]);
+            lookAtNumbers(due, DIV, row, true, row[4]);
+            lookAtNumbers(due, MOD, row, true, row[5]);
+        }
     }
 
     private static void lookAtNumbers(Due due, int instruction, long[] row, boolean narrow, long want) {

@@ -2,6 +2,8 @@
 final class WorkModelTest {
     public static void main(String[] args) {
         Due due = new Due();
+        due.stands("promise 3, work", "whatever numbers are in two ranges, what the instruction makes of these is "
+            + "in the range that's told");
         Edges edges = new Edges(3);
         long[][] ranges = Edges.ranges(3);
         for (long[] x : ranges) {

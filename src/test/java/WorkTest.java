@@ -1,126 +1,69 @@
-/** Promise 3: work, by rows written out by hand from the document. */
+/** Promise 3: work, but for the outcomes, which OutcomeTest, BitOutcomeTest and NarrowOutcomeTest look at. */
 final class WorkTest {
-    private static final int WIDE = 0;
-    private static final int SLIM = 1;
-    private static final long LEAST = Due.LEAST;
-    private static final long GREATEST = Due.GREATEST;
-    private static final long NARROW = Due.NARROW;
-    // instruction, narrow or not, x.low, x.high, y.low, y.high, the outcome's low, its high
-    private static final long[][] ROWS = {
-        {0, WIDE, 1, 2, -3, 4, -3, 4}, {0, WIDE, 1, 2, -3, -3, -3, -3},
-        {0, SLIM, 1, 2, -3, -3, 0xfffffffdL, 0xfffffffdL}, {0, SLIM, 1, 2, -3, 4, 0, NARROW},
-        {0, SLIM, 1, 2, 3, NARROW, 3, NARROW}, {0, SLIM, 1, 2, 3, NARROW + 1, 0, NARROW},
-
-        {1, WIDE, -5, 9, 3, 4, -2, 13}, {1, WIDE, GREATEST, GREATEST, 1, 1, LEAST, LEAST},
-        {1, WIDE, 0, GREATEST, 0, 1, LEAST, GREATEST}, {1, WIDE, 0, GREATEST - 1, 0, 1, 0, GREATEST},
-        {1, WIDE, LEAST, 0, -1, 0, LEAST, GREATEST}, {1, WIDE, LEAST, 0, 0, 1, LEAST, 1},
-        {1, SLIM, 0, 9, 1, NARROW - 9, 1, NARROW}, {1, SLIM, 0, 9, 1, NARROW - 8, 0, NARROW},
-        {1, SLIM, 1, 9, -1, -1, 0, NARROW}, {1, SLIM, 1, 9, 0x100000001L, 0x100000001L, 2, 10},
-
-        {2, WIDE, -5, 9, 3, 4, -9, 6}, {2, WIDE, LEAST, 0, 0, 1, LEAST, GREATEST},
-        {2, WIDE, -1, 0, LEAST, 0, LEAST, GREATEST}, {2, WIDE, -2, -1, LEAST, 0, -2, GREATEST},
-        {2, SLIM, 5, 9, 1, 5, 0, 8}, {2, SLIM, 5, 9, 1, 6, 0, NARROW},
-
-        {3, WIDE, -5, 9, 3, 4, -20, 36}, {3, WIDE, -5, 3, -7, 2, -21, 35}, {3, WIDE, LEAST, 0, 0, 1, LEAST, 0},
-        {3, WIDE, LEAST, 0, -1, 0, LEAST, GREATEST}, {3, WIDE, -1, 0, LEAST, 0, LEAST, GREATEST},
-        {3, WIDE, LEAST, GREATEST, 0, 0, 0, 0}, {3, WIDE, LEAST + 1, GREATEST, -1, -1, LEAST + 1, GREATEST},
-        {3, WIDE, LEAST, GREATEST, -1, -1, LEAST, GREATEST}, {3, WIDE, 1, 0x4000000000000000L, -2, -2, LEAST, -2},
-        {3, WIDE, 1, 0x4000000000000000L, 2, 2, LEAST, GREATEST},
-        {3, SLIM, 0, NARROW, 0, NARROW, 0, NARROW}, {3, SLIM, 2, 0xffff, 3, 0x10001, 6, NARROW},
-        {3, SLIM, 2, 0x10000, 3, 0x10000, 0, NARROW}, {3, SLIM, -5, 9, 0x300000000L, 0x300000000L, 0, 0},
-
-        {4, WIDE, 10, 99, 2, 5, 2, 49}, {4, WIDE, 10, 99, 0, 5, 0, 99}, {4, WIDE, 10, 99, 0, 0, 0, 99},
-        {4, WIDE, -1, 99, 2, 5, LEAST, GREATEST}, {4, WIDE, 10, 99, -1, 5, LEAST, GREATEST},
-        {4, WIDE, 0, 99, 1, 5, 0, 99}, {4, WIDE, 10, 99, GREATEST, GREATEST, 0, 0},
-        {4, SLIM, -5, 9, 3, 4, 0, 1431655765}, {4, SLIM, 10, 99, -1, -1, 0, 0}, {4, SLIM, 10, 99, -1, 5, 0, 99},
-
-        {5, WIDE, 10, 99, 2, 5, 0, 4}, {5, WIDE, 0, 3, 2, 50, 0, 3}, {5, WIDE, 10, 99, 0, 5, 0, 99},
-        {5, WIDE, 10, 99, 1, 1, 0, 0}, {5, WIDE, -1, 99, 2, 5, LEAST, GREATEST},
-        {5, WIDE, 10, 99, -1, 5, LEAST, GREATEST}, {5, WIDE, 10, 99, 0, 0, 0, 99},
-        {5, SLIM, -5, 9, 3, 4, 0, 3}, {5, SLIM, 10, 99, 0x100000000L, 0x100000000L, 0, 99},
-
-        {6, WIDE, 3, 9, 5, 20, 0, 9}, {6, WIDE, 3, 30, 5, 20, 0, 20}, {6, WIDE, -3, 30, 5, 20, 0, 20},
-        {6, WIDE, 3, 30, -5, 20, 0, 30}, {6, WIDE, -3, 30, -5, 20, LEAST, GREATEST}, {6, WIDE, -3, 30, 0, 0, 0, 0},
-        {6, SLIM, -3, 30, -5, 20, 0, NARROW}, {6, SLIM, -3, 30, 0x700000005L, 0x700000005L, 0, 5},
-
-        {7, WIDE, 3, 9, 5, 20, 5, 31}, {7, WIDE, 6, 16, 5, 5, 6, 31}, {7, WIDE, 6, 15, 5, 5, 6, 15},
-        {7, WIDE, 0, 0, 0, 1, 0, 1}, {7, WIDE, 0, GREATEST, 4, 5, 4, GREATEST},
-        {7, WIDE, 0, 0x4000000000000000L, 4, 5, 4, GREATEST}, {7, WIDE, -1, 9, 5, 20, LEAST, GREATEST},
-        {7, WIDE, 3, 9, -1, 20, LEAST, GREATEST}, {7, SLIM, -1, 9, 5, 20, 5, NARROW},
-
-        {8, WIDE, 3, 9, 5, 20, 0, 31}, {8, WIDE, 3, 7, 8, 9, 0, 15}, {8, WIDE, 0, 0, 0, 1, 0, 1},
-        {8, WIDE, -1, 9, 5, 20, LEAST, GREATEST}, {8, WIDE, 3, 9, -1, 20, LEAST, GREATEST},
-        {8, SLIM, -1, 9, 5, 20, 0, NARROW}, {8, SLIM, 3, 9, 0x100000010L, 0x100000010L, 0, 31},
-
-        {9, WIDE, 3, 9, 4, 4, 48, 144}, {9, WIDE, 3, 9, 64, 64, 3, 9}, {9, WIDE, 3, 9, 4, 5, LEAST, GREATEST},
-        {9, WIDE, -1, 9, 4, 4, LEAST, GREATEST}, {9, WIDE, 0, 1, 62, 62, 0, 0x4000000000000000L},
-        {9, WIDE, 0, 1, 63, 63, LEAST, GREATEST}, {9, WIDE, 0, GREATEST, 1, 1, LEAST, GREATEST},
-        {9, WIDE, -1, 9, 0, 0, LEAST, GREATEST}, {9, WIDE, 0, GREATEST, -64, -64, 0, GREATEST},
-        {9, SLIM, 3, 9, 32, 32, 3, 9}, {9, SLIM, 0, 1, 31, 31, 0, 0x80000000L}, {9, SLIM, 0, 2, 31, 31, 0, NARROW},
-        {9, SLIM, 3, 9, 36, 36, 48, 144}, {9, SLIM, -1, 9, 0, 0, 0, NARROW},
-
-        {10, WIDE, 8, 99, 2, 2, 2, 24}, {10, WIDE, -8, 99, 2, 2, 0, 0x3fffffffffffffffL},
-        {10, WIDE, -8, 99, 64, 64, -8, 99}, {10, WIDE, -8, -4, 63, 63, 0, 1}, {10, WIDE, 8, 99, 2, 3, 0, 99},
-        {10, WIDE, -8, 99, 2, 3, LEAST, GREATEST}, {10, WIDE, 8, 99, 0, 0, 8, 99}, {10, WIDE, -8, 99, 0, 0, -8, 99},
-        {10, SLIM, -8, 99, 4, 4, 0, 0x0fffffffL}, {10, SLIM, 8, 99, 34, 34, 2, 24}, {10, SLIM, 8, 99, 2, 3, 0, 99},
-
-        {11, WIDE, -8, 99, 2, 2, -2, 24}, {11, WIDE, LEAST, GREATEST, 63, 63, -1, 0},
-        {11, WIDE, -8, 99, 64, 64, -8, 99}, {11, WIDE, 8, 99, 2, 3, 0, 99}, {11, WIDE, -8, 99, 2, 3, LEAST, GREATEST},
-        {11, SLIM, 8, 99, 2, 2, 0, NARROW}, {11, SLIM, 8, 99, 0, 0, 0, NARROW},
-        {11, SLIM, -8, -8, 2, 2, 0xfffffffeL, 0xfffffffeL}, {11, SLIM, 8, 8, 2, 3, 0, NARROW},
-
-        {12, WIDE, -5, 9, 3, 4, -9, 5}, {12, WIDE, LEAST, 9, 3, 4, LEAST, GREATEST},
-        {12, WIDE, LEAST + 1, 9, 3, 4, -9, GREATEST}, {12, WIDE, LEAST, LEAST, 3, 4, LEAST, LEAST},
-        {12, WIDE, 7, 7, 3, 4, -7, -7}, {12, SLIM, 5, 9, 3, 3, 0, NARROW}, {12, SLIM, 5, 5, 3, 4, 0xfffffffbL, 0xfffffffbL}
-    };
+    private static final String PROMISE = "promise 3, work";
 
     public static void main(String[] args) {
         Due due = new Due();
-        for (long[] row : ROWS) {
-            lookAtRow(due, row);
-        }
-        takesOneRangeTwice(due);
-        refuses(due);
+        due.run(() -> changesOneRange(due));
+        due.run(() -> takesOneRangeTwice(due));
+        due.run(() -> refusesNoRange(due));
+        due.run(() -> refusesNoInstruction(due));
         due.end();
     }
 
-    private static void lookAtRow(Due due, long[] row) {
-        boolean narrow = row[1] == SLIM;
-        String call = "work(.., " + row[0] + ", " + row[2] + " .. " + row[3] + ", " + row[4] + " .. " + row[5]
-            + ", " + narrow + ")";
-        int[][] places = {{2, 0, 1}, {0, 0, 1}, {1, 0, 1}, {15, 14, 3}};
-        for (int[] place : places) {
-            RangeBox box = new RangeBox();
-            box.put(place[1], row[2], row[3]);
-            box.put(place[2], row[4], row[5]);
-            box.work(place[0], (int) row[0], place[1], place[2], narrow);
-            due.range(call, box, place[0], row[6], row[7]);
-            if (place[0] != place[1]) {
-                due.range(call + " keeps x", box, place[1], row[2], row[3]);
-            }
-            if (place[0] != place[2]) {
-                due.range(call + " keeps y", box, place[2], row[4], row[5]);
-            }
-        }
-    }
-
-    private static void takesOneRangeTwice(Due due) {
-        RangeBox box = new RangeBox();
-        box.put(4, 2, 5);
-        box.work(5, 2, 4, 4, false);
-        due.range("x less x", box, 5, -3, 3);
-        box.work(4, 3, 4, 4, false);
-        due.range("x is x times x", box, 4, 4, 25);
-        box.work(4, 8, 4, 4, true);
-        due.range("x is x xor x", box, 4, 0, 31);
-    }
-
-    private static void refuses(Due due) {
+    private static RangeBox boxOfSixteen() {
         RangeBox box = new RangeBox();
         for (int k = 0; k < 16; k++) {
             box.put(k, k, 2 * k);
         }
-        for (int none : new int[] {-1, 16, Integer.MIN_VALUE, Integer.MAX_VALUE}) {
+        return box;
+    }
+
+    private static void staysAsMade(Due due, RangeBox box, int but) {
+        for (int k = 0; k < 16; k++) {
+            if (k != but) {
+                due.range("the others", box, k, k, 2 * k);
+            }
+        }
+    }
+
+    private static void changesOneRange(Due due) {
+        due.stands(PROMISE, "RANGE d becomes the OUTCOME of the instruction on RANGES x and y");
+        RangeBox box = boxOfSixteen();
+        box.work(0, Codes.ADD, 15, 14, false);
+        due.range("work(0, ADD, 15, 14, false)", box, 0, 29, 58);
+        staysAsMade(due, box, 0);
+        box = boxOfSixteen();
+        box.work(15, Codes.SUB, 0, 1, true);
+        due.range("work(15, SUB, 0, 1, true)", box, 15, 0, Due.NARROW);
+        staysAsMade(due, box, 15);
+    }
+
+    private static void takesOneRangeTwice(Due due) {
+        due.stands(PROMISE, "(any of them may be the same)");
+        RangeBox box = new RangeBox();
+        box.put(4, 2, 5);
+        box.work(5, Codes.SUB, 4, 4, false);
+        due.range("x less x", box, 5, -3, 3);
+        box.work(4, Codes.MUL, 4, 4, false);
+        due.range("x is x times x", box, 4, 4, 25);
+        box.work(4, Codes.XOR, 4, 4, true);
+        due.range("x is x xor x", box, 4, 0, 31);
+        box.put(6, 40, 90);
+        box.work(6, Codes.DIV, 6, 4, false);
+        due.range("x is x by what may be 0", box, 6, 0, 90);
+        box.put(7, 4, 9);
+        box.work(7, Codes.DIV, 6, 7, false);
+        due.range("y is x by y", box, 7, 0, 22);
+        box.put(8, 9, 9);
+        box.work(8, Codes.SUB, 8, 8, true);
+        due.range("a CONST less itself", box, 8, 0, 0);
+    }
+
+    private static void refusesNoRange(Due due) {
+        due.stands(PROMISE, Due.BAD);
+        RangeBox box = boxOfSixteen();
+        for (int none : Codes.NO_RANGES) {
             for (int instruction = 0; instruction < 13; instruction++) {
                 int i = instruction;
                 due.bad("work(" + none + ", " + i + ", 1, 2)", () -> box.work(none, i, 1, 2, false));
@@ -128,12 +71,19 @@ final class WorkTest {
                 due.bad("work(3, " + i + ", 1, " + none + ")", () -> box.work(3, i, 1, none, true));
             }
         }
-        for (int none : new int[] {-1, 13, Integer.MIN_VALUE, Integer.MAX_VALUE}) {
+        staysAsMade(due, box, -1);
+    }
+
+    private static void refusesNoInstruction(Due due) {
+        due.stands(PROMISE, "(0 .. 12, else bad; narrow as told)");
+        RangeBox box = boxOfSixteen();
+        for (int none : Codes.NO_INSTRUCTIONS) {
             due.bad("work(3, " + none + ", 1, 2, false)", () -> box.work(3, none, 1, 2, false));
             due.bad("work(3, " + none + ", 1, 2, true)", () -> box.work(3, none, 1, 2, true));
+            due.bad("work(3, " + none + ", 0, 0, false)", () -> box.work(3, none, 0, 0, false));
         }
-        for (int k = 0; k < 16; k++) {
-            due.range("after bad work", box, k, k, 2 * k);
-        }
+        staysAsMade(due, box, -1);
+        due.good("work(3, 0, 1, 2, false)", () -> box.work(3, 0, 1, 2, false));
+        due.good("work(3, 12, 1, 2, false)", () -> box.work(3, 12, 1, 2, false));
     }
 }
